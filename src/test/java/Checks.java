@@ -1,0 +1,107 @@
+/** Counts the answers that are not the ones that are due, and holds what several tests do with sheets. */
+final class Checks {
+    private static int checked;
+    private static int wrong;
+
+    private Checks() {
+    }
+
+    static void due(String call, long got, long want) {
+        checked++;
+        if (got != want) {
+            wrong++;
+            System.out.println(call + " answered " + got + ", due is " + want);
+        }
+    }
+
+    static void holds(String what, boolean held) {
+        due(what, held ? 1 : 0, 1);
+    }
+
+    /** Ends the test: with exit code 1 if an answer was wrong, or if nothing was checked at all. */
+    static void end(String name) {
+        System.out.println(name + ": " + checked + " checks, " + wrong + " wrong");
+        if (wrong != 0 || checked == 0) {
+            System.exit(1);
+        }
+    }
+
+    static ProofSheets withText(String text) {
+        ProofSheets x = new ProofSheets();
+        for (int i = 0; i < text.length(); i++) {
+            due("put " + text.charAt(i), x.put(text.charAt(i)), i + 1);
+        }
+        return x;
+    }
+
+    static ProofSheets inRoundOne(String text) {
+        ProofSheets x = withText(text);
+        due("begin()", x.begin(), text.length());
+        return x;
+    }
+
+    static void typed(ProofSheets x, String marks) {
+        x.clearText();
+        for (int i = 0; i < marks.length(); i++) {
+            due("type " + marks.charAt(i), x.type(marks.charAt(i)), i + 1);
+        }
+    }
+
+    static int write(ProofSheets x, int sheet, String marks) {
+        typed(x, marks);
+        return x.write(sheet);
+    }
+
+    /** Sends a sheet to the reader, writes the marks on it, and brings it back. */
+    static int back(ProofSheets x, int reader, String marks) {
+        int sheet = x.send(reader);
+        int many = write(x, sheet, marks);
+        holds("write \"" + marks + "\"", many >= 0);
+        due("bring " + sheet, x.bring(sheet), many);
+        return sheet;
+    }
+
+    /** The same, and merges it; returns how many marks were united. */
+    static int merged(ProofSheets x, int reader, String marks) {
+        return x.merge(back(x, reader, marks));
+    }
+
+    static void accept(ProofSheets x, int... marks) {
+        for (int mark : marks) {
+            holds("answer(" + mark + ", 0)", x.answer(mark, 0) >= 0);
+        }
+    }
+
+    static void text(String what, ProofSheets x, String want) {
+        due(what + ": count(0)", x.count(0), want.length());
+        for (int i = 0; i < want.length(); i++) {
+            due(what + ": at(" + i + ")", x.at(i), want.charAt(i));
+        }
+        due(what + ": at behind", x.at(want.length()), ProofSheets.NOT_FOUND);
+    }
+
+    static void wouldBe(String what, ProofSheets x, String want) {
+        for (int i = 0; i < want.length(); i++) {
+            due(what + ": would(" + i + ")", x.would(i), want.charAt(i));
+            due(what + ": again(" + i + ")", x.again(i), want.charAt(i));
+        }
+        due(what + ": would behind", x.would(want.length()), ProofSheets.NOT_FOUND);
+        due(what + ": again behind", x.again(want.length()), ProofSheets.NOT_FOUND);
+    }
+
+    static void accountsAddUp(String what, ProofSheets x) {
+        int sum = 0;
+        for (int i = 11; i <= 16; i++) {
+            sum += x.count(i);
+        }
+        due(what + ": the sum of the accounts", sum, x.count(10));
+    }
+
+    static String repeated(char character, int times) {
+        StringBuilder text = new StringBuilder();
+        for (int i = 0; i < times; i++) {
+            text.append(character);
+        }
+        return text.toString();
+    }
+}
