@@ -82,9 +82,9 @@ public final class ReadersAndMarkTextsTest {
         String[][] reasons = {
             {"del 0 10;", "del 9 10;", "del 000 001;", "ins 0 x;", "ins 10 x;", "rep 9 ~;", "swap 8;", "swap 0;",
                 "cap 9;", "ask 009;", "ins 1  ;", "rep 1 ;;", "ins 1 1;"},
-            {";", " ", "x", "dele 0 1;", "de 0 1;", "Del 0 1;", " del 0 1;", "1", "swapp 1;", "capask 1;", "delx;",
-                "d", "insx", "ABC", "-;"},
-            {"del", "del ", "del 1", "del 1;", "del 1 ", "del 1 2", "del 1 2x", "del 1  2;", "del  1 2;", "del 1 2 ;",
+            {";", " ", "x", "dele 0 1;", "de 0 1;", "Del 0 1;", " del 0 1;", "1", "swapp 1;", "capask 1;", "delx;", "xel 0 1;", "dxl 0 1;",
+                "capz 1;", "swax 1;", "d", "insx", "ABC", "-;"},
+            {"del", "del{ 0 1;", "cap` 1;", "del ", "del 1", "del 1;", "del 1 ", "del 1 2", "del 1 2x", "del 1  2;", "del  1 2;", "del 1 2 ;",
                 "del 1,2;", "del 0001 2;", "del 1 0002;", "del -1 2;", "del +1 2;", "ins 1;", "ins 1 ;", "ins 1x;",
                 "ins 1 x", "ins 1 xx;", "ins 1 ", "ins x 1;", "rep 1", "rep 1  x;", "swap 1 2;", "swap;", "swap ;",
                 "swap 1", "cap1;", "cap 1 ;", "cap A;", "ask 1111;", "ask 1,", "cap1 1;", "del1 1 2;", "ask\";",
@@ -147,8 +147,10 @@ public final class ReadersAndMarkTextsTest {
         Checks.due("24: no room", x.fault(0, 0), 6);
         Checks.due("24: no room", x.fault(0, 1), 5);
         Checks.due("24: another sheet", x.fault(1, 1), NOT_FOUND);
+        Checks.typed(x, "cap 0;");
+        Checks.due("24: like the first one", x.fault(0, 1), 4);
         Checks.typed(x, "cap 6;");
-        Checks.due("24: like", x.fault(0, 1), 4);
+        Checks.due("24: like the last one", x.fault(0, 1), 4);
         x.lose(0);
         Checks.due("24: like, lost", x.fault(0, 1), 4);
         x.find(0);
