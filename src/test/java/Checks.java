@@ -2,15 +2,21 @@
 final class Checks {
     private static int checked;
     private static int wrong;
+    private static String sentence = "";
 
     private Checks() {
+    }
+
+    /** The words of the document that the checks from here on are made for; a wrong answer names them. */
+    static void sentence(String words) {
+        sentence = "\"" + words + "\": ";
     }
 
     static void due(String call, long got, long want) {
         checked++;
         if (got != want) {
             wrong++;
-            System.out.println(call + " answered " + got + ", due is " + want);
+            System.out.println(sentence + call + " answered " + got + ", due is " + want);
         }
     }
 
@@ -50,6 +56,32 @@ final class Checks {
     static int write(ProofSheets x, int sheet, String marks) {
         typed(x, marks);
         return x.write(sheet);
+    }
+
+    /** The round 1 of the text, with a sheet that is out, and a mark text. */
+    static ProofSheets withMarkText(String text, String marks) {
+        ProofSheets x = inRoundOne(text);
+        due("send(0)", x.send(0), 0);
+        typed(x, marks);
+        return x;
+    }
+
+    /** The round 1 of the text, with one merged sheet of each reader from 0. */
+    static ProofSheets listed(String text, String... sheets) {
+        ProofSheets x = inRoundOne(text);
+        for (int reader = 0; reader < sheets.length; reader++) {
+            holds("merge \"" + sheets[reader] + "\"", merged(x, reader, sheets[reader]) >= 0);
+        }
+        return x;
+    }
+
+    /** Answers all marks that are not answered: accepted, where that is possible. */
+    static void answerAll(ProofSheets x) {
+        for (int mark = 0; mark < x.count(4); mark++) {
+            if (x.mark(mark, 4) == 0) {
+                holds("answer(" + mark + ")", x.answer(mark, x.mark(mark, 8) == 1 ? 0 : 1) >= 0);
+            }
+        }
     }
 
     /** Sends a sheet to the reader, writes the marks on it, and brings it back. */

@@ -1,7 +1,10 @@
-/** Runs of at most 512 calls, drawn by a fixed rule, each answer compared with the model's. */
+/**
+ * Runs drawn by a fixed rule, each answer compared with the model's. A run has 450 calls and 7 times 7 more
+ * for the sum of the accounts: no object is used for more than 512, behind which its answers are free.
+ */
 public final class RandomRunsTest {
     private static final int RUNS = 12000;
-    private static final int CALLS = 512;
+    private static final int CALLS = 450;
     private static final int[] ODD = {-1, -2, 9, 64, 100, 1000, Integer.MIN_VALUE, Integer.MAX_VALUE};
 
     private long seed;

@@ -82,9 +82,11 @@ public final class ReadersAndMarkTextsTest {
         String[][] reasons = {
             {"del 0 10;", "del 9 10;", "del 000 001;", "ins 0 x;", "ins 10 x;", "rep 9 ~;", "swap 8;", "swap 0;",
                 "cap 9;", "ask 009;", "ins 1  ;", "rep 1 ;;", "ins 1 1;"},
-            {";", " ", "x", "dele 0 1;", "de 0 1;", "Del 0 1;", " del 0 1;", "1", "swapp 1;", "capask 1;", "delx;", "xel 0 1;", "dxl 0 1;",
+            {";", " ", "x", "dele 0 1;", "de 0 1;", "Del 0 1;", " del 0 1;", "1", "swapp 1;", "capask 1;",
+                    "delx;", "xel 0 1;", "dxl 0 1;",
                 "capz 1;", "swax 1;", "d", "insx", "ABC", "-;"},
-            {"del", "del{ 0 1;", "cap` 1;", "del ", "del 1", "del 1;", "del 1 ", "del 1 2", "del 1 2x", "del 1  2;", "del  1 2;", "del 1 2 ;",
+            {"del", "del{ 0 1;", "cap` 1;", "del ", "del 1", "del 1;", "del 1 ", "del 1 2", "del 1 2x",
+                    "del 1  2;", "del  1 2;", "del 1 2 ;",
                 "del 1,2;", "del 0001 2;", "del 1 0002;", "del -1 2;", "del +1 2;", "ins 1;", "ins 1 ;", "ins 1x;",
                 "ins 1 x", "ins 1 xx;", "ins 1 ", "ins x 1;", "rep 1", "rep 1  x;", "swap 1 2;", "swap;", "swap ;",
                 "swap 1", "cap1;", "cap 1 ;", "cap A;", "ask 1111;", "ask 1,", "cap1 1;", "del1 1 2;", "ask\";",
@@ -105,8 +107,7 @@ public final class ReadersAndMarkTextsTest {
     }
 
     private static void faultOfSeveral() {
-        ProofSheets x = Checks.inRoundOne("0123456789");
-        x.send(0);
+        ProofSheets x = withEmptySheet();
         faultIs(x, "", NOT_FOUND, NOT_FOUND);
         faultIs(x, "cap 1;cap 2;", NOT_FOUND, NOT_FOUND);
         faultIs(x, "cap 1;cap 2", 6, 2);
@@ -119,15 +120,23 @@ public final class ReadersAndMarkTextsTest {
         faultIs(x, "del 1 2;del 1 3;del 0 2;", NOT_FOUND, NOT_FOUND);
         faultIs(x, "cap 1;cap 10;cap 1;", 6, 3);
         faultIs(x, "cap 1;cap 1", 6, 2);
+        x = withEmptySheet();
         faultIs(x, "cap 0;cap 1;cap 2;cap 3;cap 4;cap 5;cap 6;cap 7;", NOT_FOUND, NOT_FOUND);
         faultIs(x, "cap 0;cap 1;cap 2;cap 3;cap 4;cap 5;cap 6;cap 7;cap 8;", 48, 5);
         faultIs(x, "cap 0;cap 1;cap 2;cap 3;cap 4;cap 5;cap 6;cap 7;cap 7;", 48, 4);
         faultIs(x, "cap 0;cap 1;cap 2;cap 3;cap 4;cap 5;cap 6;cap 7;cap 10;", 48, 3);
         faultIs(x, "cap 0;cap 1;cap 2;cap 3;cap 4;cap 5;cap 6;cap 7;cap 8", 48, 2);
         faultIs(x, "cap 0;cap 1;cap 2;cap 3;cap 4;cap 5;cap 6;cap 7;cup 8;", 48, 1);
+        x = withEmptySheet();
         String longest = "rep 001 x;rep 002 x;rep 003 x;rep 004 x;rep 005 x;rep 006 x;rep 007 x;rep 008 x;";
         faultIs(x, longest, NOT_FOUND, NOT_FOUND);
         faultIs(x, longest.substring(0, 79) + "y", 70, 2);
+    }
+
+    private static ProofSheets withEmptySheet() {
+        ProofSheets x = Checks.inRoundOne("0123456789");
+        x.send(0);
+        return x;
     }
 
     private static void faultIs(ProofSheets x, String marks, int position, int reason) {

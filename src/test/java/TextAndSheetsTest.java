@@ -18,7 +18,6 @@ public final class TextAndSheetsTest {
         written();
         undo();
         undoRestoresAll();
-        undoOfEachChange();
         undoAcrossRounds();
         count();
         at();
@@ -188,22 +187,6 @@ public final class TextAndSheetsTest {
         x.lose(lost);
         Checks.due("8: merge, lost", x.merge(lost), NOT_POSSIBLE);
         Checks.due("8: an empty sheet", Checks.merged(x, 5, ""), 0);
-        ProofSheets y = fullList();
-        Checks.due("8: 64 marks in the list", y.count(4), 64);
-        Checks.due("8: the last one", y.mark(63, 1), 63);
-    }
-
-    /** A round with eight merged sheets of eight marks, no two of them like. */
-    private static ProofSheets fullList() {
-        ProofSheets x = Checks.inRoundOne(Checks.repeated('x', 70));
-        for (int sheet = 0; sheet < 8; sheet++) {
-            StringBuilder marks = new StringBuilder();
-            for (int i = 0; i < 8; i++) {
-                marks.append("rep ").append(sheet * 8 + i).append(" y;");
-            }
-            Checks.due("8: merge", Checks.merged(x, 0, marks.toString()), 0);
-        }
-        return x;
     }
 
     private static void sheet() {
@@ -340,78 +323,6 @@ public final class TextAndSheetsTest {
         Checks.due("11: sheets sent", y.reader(0, 0), 0);
     }
 
-    private interface Change {
-        int made();
-    }
-
-    /** Each kind of change records one state: undone, all is as it was; then it is made again. */
-    private static void undoOfEachChange() {
-        ProofSheets x = new ProofSheets();
-        undone("put", x, () -> x.put('a'));
-        undone("put", x, () -> x.put('b'));
-        undone("begin", x, () -> x.begin());
-        undone("send", x, () -> x.send(5));
-        undone("send", x, () -> x.send(2));
-        Checks.typed(x, "cap 0;cap 1;");
-        undone("write", x, () -> x.write(0));
-        Checks.typed(x, "cap 1;ins 0 x;ask 0;");
-        undone("write", x, () -> x.write(1));
-        undone("bring", x, () -> x.bring(0));
-        undone("merge", x, () -> x.merge(0));
-        undone("lose", x, () -> x.lose(1));
-        undone("find", x, () -> x.find(1));
-        undone("merge", x, () -> x.merge(1));
-        undone("send", x, () -> x.send(2));
-        undone("lose", x, () -> x.lose(2));
-        for (int mark = 0; mark < 4; mark++) {
-            int number = mark;
-            undone("answer", x, () -> x.answer(number, number % 2));
-        }
-        undone("finish", x, () -> x.finish());
-        undone("send", x, () -> x.send(4));
-        undone("lose", x, () -> x.lose(0));
-        undone("finish", x, () -> x.finish());
-    }
-
-    private static void undone(String call, ProofSheets x, Change change) {
-        String before = seen(x);
-        Checks.holds("11: " + call + " is possible", change.made() >= 0);
-        String after = seen(x);
-        Checks.holds("11: " + call + " alters something", !after.equals(before));
-        Checks.holds("11: " + call + " can be undone", x.undo() >= 0);
-        Checks.holds("11: " + call + " undone, all is as before", seen(x).equals(before));
-        Checks.holds("11: " + call + " is possible again", change.made() >= 0);
-        Checks.holds("11: " + call + " does the same again", seen(x).equals(after));
-    }
-
-    /** All that can be seen of an object but the history and the mark text. */
-    private static String seen(ProofSheets x) {
-        StringBuilder seen = new StringBuilder();
-        for (int what = 0; what <= 16; what++) {
-            seen.append(what == 6 || what == 7 ? 0 : x.count(what)).append(' ');
-        }
-        for (int i = 0; i < x.count(0); i++) {
-            seen.append(x.at(i)).append(' ');
-        }
-        for (int i = 0; i < x.count(2); i++) {
-            for (int what = 0; what < 5; what++) {
-                seen.append(x.sheet(i, what)).append(' ');
-            }
-            for (int k = 0; k < 40; k++) {
-                seen.append(x.written(i, k / 5, k % 5)).append(' ');
-            }
-        }
-        for (int i = 0; i < x.count(4); i++) {
-            for (int what = 0; what < 9; what++) {
-                seen.append(x.mark(i, what)).append(' ');
-            }
-        }
-        for (int i = 0; i < 24; i++) {
-            seen.append(x.reader(i / 4, i % 4)).append(' ');
-        }
-        return seen.toString();
-    }
-
     /** A round that is undone is seen whole, also if the next round has sheets and marks of its own. */
     private static void undoAcrossRounds() {
         ProofSheets x = Checks.inRoundOne("abcdef");
@@ -419,7 +330,7 @@ public final class TextAndSheetsTest {
         Checks.merged(x, 3, "cap 0;cap 1;");
         x.answer(0, 0);
         x.answer(1, 1);
-        String before = seen(x);
+        String before = Seen.stateOf(x);
         Checks.due("11: finish", x.finish(), 6);
         x.send(0);
         x.bring(0);
@@ -427,7 +338,7 @@ public final class TextAndSheetsTest {
         for (int i = 3; i >= 0; i--) {
             Checks.due("11: undo", x.undo(), i);
         }
-        Checks.holds("11: four undone, the round before is back", seen(x).equals(before));
+        Checks.holds("11: four undone, the round before is back", Seen.stateOf(x).equals(before));
         Checks.due("11: finish", x.finish(), 6);
         Checks.merged(x, 5, "cap 2;");
         Checks.due("14: a mark of the next round is not answered", x.mark(0, 4), 0);
